@@ -431,6 +431,23 @@ public final class PromisesTest {
         due("17 three ends", x.goesThrough(4, 3), true);
         due("17 three ends", x.goesThrough(4, 1), true);
         due("17 three ends, not", x.goesThrough(4, 0), false);
+        Harnessboard y = withPoints(6);
+        int[][] pairs = {{0, 1}, {1, 4}, {4, 5}, {0, 2}, {2, 3}, {3, 5}};
+        for (int[] pair : pairs) {
+            y.branch(pair[0], pair[1], 1, false, 9);
+        }
+        y.circuit(0, 5, -1, 1, 1, false);
+        y.circuit(5, 0, -1, 1, 1, false);
+        for (int branch = 0; branch < 6; branch++) {
+            due("17 from the first end " + branch, y.goesThrough(0, branch), branch < 3);
+            due("17 from the first end, back " + branch, y.goesThrough(1, branch), branch >= 3);
+        }
+        y.branch(0, 5, 1, false, 9);
+        for (int branch = 0; branch < 7; branch++) {
+            due("17 by a new branch " + branch, y.goesThrough(0, branch), branch == 6);
+        }
+        due("17 with as many wires", y.wires(0), 1);
+        due("17 with as much length", y.cost(0), 2);
         thrown("17 circuit", INDEX, () -> x.goesThrough(5, 0));
         thrown("17 circuit below", INDEX, () -> x.goesThrough(-1, 0));
         thrown("17 branch", INDEX, () -> x.goesThrough(0, 4));
@@ -657,6 +674,11 @@ public final class PromisesTest {
         due("26 the third end counts, too", z.proof(0), 'd');
         z.limit(40);
         due("26 the third end is at the limit", z.proof(0), 'p');
+        Harnessboard first = withPoints(2);
+        first.branch(0, 1, 1, false, 4);
+        first.branch(1, 0, 9, false, 9);
+        first.circuit(0, 1, -1, 5, 1, false);
+        due("26 the first branch counts, too", first.proof(0), 'w');
     }
 
     private static void promise27Unproved() {
@@ -865,6 +887,44 @@ public final class PromisesTest {
         due("34 just this length", y.cut(), 0);
     }
 
+    /** All circuits, with three wires of three lengths each, and eight changes at ten chassis. */
+    private static void promise34AllKinds() {
+        Harnessboard x = withPoints(7);
+        for (int i = 1; i < 7; i++) {
+            x.branch(0, i, 10 * i, false, 99);
+        }
+        int[][] ends = {{1, 2, 3}, {4, 5, 6}};
+        for (int i = 0; i < 12; i++) {
+            x.circuit(ends[i % 2][0], ends[i % 2][1], ends[i % 2][2], 1 + i % 9, 1, false);
+        }
+        int[] sizes = {1, 2, 3, 4, 5, 6, 7, 8, 9, 1, 2, 3};
+        for (int i = 0; i < 8; i++) {
+            x.change(i, 100 + i, 9 - i);
+        }
+        java.util.TreeMap<Integer, Integer> kinds = new java.util.TreeMap<>();
+        for (int order = 0; order < 10; order++) {
+            x.chassis(99 + order);
+            x.order(0);
+            if (order > 0 && order < 9) {
+                sizes[order - 1] = 10 - order;
+            }
+            for (int i = 0; i < 12; i++) {
+                for (int end : ends[i % 2]) {
+                    kinds.merge(1000 * sizes[i] - end, 1, Integer::sum);
+                }
+            }
+        }
+        due("34 all wires", x.toCut(), 360);
+        int cost = 360;
+        int ahead = 0;
+        for (int kind : kinds.keySet()) {
+            int size = (kind + 999) / 1000;
+            cost += size == ahead ? 1 : 5;
+            ahead = size;
+        }
+        due("34 all kinds", x.cut(), cost);
+    }
+
     private static void promise35Laid() {
         Harnessboard x = row(3, 5);
         x.option();
@@ -918,6 +978,16 @@ public final class PromisesTest {
         y.circuit(2, 3, -1, 9, 1, false);
         y.circuit(1, 3, -1, 1, 1, false);
         dueRow("36 laid as soon as nothing goes ahead", y, 0, 0, 1, 2, 3);
+    }
+
+    /** Each circuit that is told shares the branch of the one before. */
+    private static void promise36Later() {
+        Harnessboard x = row(2, 2);
+        for (int i = 0; i < 12; i++) {
+            x.circuit(0, 1, -1, 1 + i % 9, 1, false);
+        }
+        dueRow("36 a full board", x, 0, 8, 7, 6, 5, 4, 3, 2, 11, 1, 10, 0, 9);
+        due("36 a full line", x.lineTime(0, 4), 15);
     }
 
     private static void promise37LineTime() {
@@ -1231,8 +1301,10 @@ public final class PromisesTest {
         promise32InStock();
         promise33ToCut();
         promise34Cut();
+        promise34AllKinds();
         promise35Laid();
         promise36LaidAt();
+        promise36Later();
         promise37LineTime();
         promise38Open();
         promise39Shorted();

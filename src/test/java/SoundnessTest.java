@@ -1,0 +1,101 @@
+import java.lang.reflect.Array;
+import java.lang.reflect.Field;
+
+/**
+ * No run of calls makes isSound answer false, so its checks are tried on vehicles whose inside is
+ * spoilt by hand.
+ */
+public final class SoundnessTest {
+    private static int wrong = 0;
+
+    private static void due(String what, boolean got, boolean want) {
+        if (got != want) {
+            wrong++;
+            System.out.println(what + " answered " + got + ", due is " + want);
+        }
+    }
+
+    private static Object inside(Object owner, String name) throws ReflectiveOperationException {
+        Field field = owner.getClass().getDeclaredField(name);
+        field.setAccessible(true);
+        return field.get(owner);
+    }
+
+    private static void spoil(Object owner, String name, int value) throws ReflectiveOperationException {
+        Field field = owner.getClass().getDeclaredField(name);
+        field.setAccessible(true);
+        field.setInt(owner, value);
+    }
+
+    /** Three points in a ring, a dry branch each, and two circuits that share one of them. */
+    private static Harnessboard ring() {
+        Harnessboard board = new Harnessboard();
+        for (int i = 0; i < 4; i++) {
+            board.point();
+        }
+        board.branch(0, 1, 3, false, 20);
+        board.branch(1, 2, 4, false, 20);
+        board.branch(2, 0, 9, true, 20);
+        board.circuit(0, 1, 2, 2, 1, false);
+        board.circuit(2, 1, -1, 5, 1, false);
+        board.circuit(0, 1, 3, 5, 1, false);
+        return board;
+    }
+
+    private static int[] far(Harnessboard board, String table) throws ReflectiveOperationException {
+        return (int[]) inside(inside(board, "net"), table);
+    }
+
+    private static Object circuit(Harnessboard board, int number) throws ReflectiveOperationException {
+        return Array.get(inside(inside(board, "circuits"), "list"), number);
+    }
+
+    private static void checkWays() throws ReflectiveOperationException {
+        Harnessboard longer = ring();
+        far(longer, "far")[2] += 16;
+        due("a way that is too long", longer.isSound(), false);
+        Harnessboard shorter = ring();
+        far(shorter, "far")[21] -= 16;
+        due("a way that is too short", shorter.isSound(), false);
+        Harnessboard more = ring();
+        far(more, "far")[1] += 1;
+        due("a way of too many branches", more.isSound(), false);
+        Harnessboard dry = ring();
+        far(dry, "dryFar")[2] = 9 * 16 + 1;
+        due("a dry way along a wet branch", dry.isSound(), false);
+        Harnessboard none = ring();
+        far(none, "far")[12] = 1 << 20;
+        due("a way that is not found", none.isSound(), false);
+        Harnessboard any = ring();
+        far(any, "far")[3] = 16;
+        due("a way that there is not", any.isSound(), false);
+    }
+
+    private static void checkSplices() throws ReflectiveOperationException {
+        for (int splice = -1; splice < 4; splice++) {
+            Harnessboard board = ring();
+            spoil(circuit(board, 0), "meeting", splice);
+            due("the splice " + splice, board.isSound(), splice == 1);
+        }
+        Harnessboard board = ring();
+        spoil(circuit(board, 2), "meeting", 0);
+        due("a splice of one that cannot be laid", board.isSound(), false);
+    }
+
+    private static void checkBoard() throws ReflectiveOperationException {
+        Harnessboard board = ring();
+        spoil(circuit(board, 0), "ahead", 0);
+        due("an order without what goes ahead", board.isSound(), false);
+    }
+
+    public static void main(String[] args) throws ReflectiveOperationException {
+        due("one that is not spoilt", ring().isSound(), true);
+        checkWays();
+        checkSplices();
+        checkBoard();
+        System.out.println(wrong == 0 ? "all answers are as due" : wrong + " answers are not as due");
+        if (wrong != 0) {
+            System.exit(1);
+        }
+    }
+}
