@@ -16,7 +16,7 @@ public final class PlainVehicle {
 
     private record Branch(int one, int other, int length, boolean wet, int bears) { }
 
-    private record Way(int length, List<Integer> points, List<Integer> branches) { }
+    record Way(int length, List<Integer> points, List<Integer> branches) { }
 
     private static final class Circuit {
         List<Integer> ends;
@@ -198,7 +198,7 @@ public final class PlainVehicle {
         }
     }
 
-    private Way least(int from, int to, boolean isDry) {
+    Way least(int from, int to, boolean isDry) {
         if (!ways.containsKey(List.of(from, from, isDry))) {
             tryAll(from, isDry, new Way(0, List.of(from), List.of()));
         }
@@ -550,7 +550,7 @@ public final class PlainVehicle {
         throw new NoSuchElementException();
     }
 
-    private boolean isJust(int set, int choice) {
+    boolean isJust(int set, int choice) {
         for (int circuit = 0; circuit < circuits.size(); circuit++) {
             int many = 0;
             for (int module = 0; module < modules.size(); module++) {
@@ -851,7 +851,15 @@ public final class PlainVehicle {
         return true;
     }
 
-    // For the driver: what there is
+    // For the tests: what there is
+
+    int cavities(int connector) {
+        return connectors.get(connector).cavities;
+    }
+
+    boolean isTaken(int choice, int connector, int cavity) {
+        return seats(choice).taken.containsKey(List.of(connector, cavity));
+    }
 
     Map<String, Integer> counts() {
         Map<String, Integer> counts = new TreeMap<>();

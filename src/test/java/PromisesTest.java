@@ -1,68 +1,8 @@
-import java.util.NoSuchElementException;
-
 /**
  * For each promise of the document its ordinary answers, its edges and its wrong inputs, worked out
  * by hand from the document's words.
  */
-public final class PromisesTest {
-    private static final Class<? extends Exception> INDEX = IndexOutOfBoundsException.class;
-    private static final Class<? extends Exception> ARGUMENT = IllegalArgumentException.class;
-    private static final Class<? extends Exception> STATE = IllegalStateException.class;
-    private static final Class<? extends Exception> ELEMENT = NoSuchElementException.class;
-    private static final Class<? extends Exception> UNSUPPORTED = UnsupportedOperationException.class;
-    private static final Class<? extends Exception> ARITHMETIC = ArithmeticException.class;
-
-    private static int wrong = 0;
-
-    private interface Call {
-        Object answer();
-    }
-
-    private static void due(String what, Object got, Object want) {
-        if (!want.equals(got)) {
-            wrong++;
-            System.out.println(what + " answered " + got + ", due is " + want);
-        }
-    }
-
-    private static void thrown(String what, Class<? extends Exception> want, Call call) {
-        try {
-            Object got = call.answer();
-            wrong++;
-            System.out.println(what + " answered " + got + ", due is " + want.getSimpleName());
-        } catch (RuntimeException e) {
-            if (e.getClass() != want) {
-                wrong++;
-                System.out.println(what + " threw " + e + ", due is " + want.getSimpleName());
-            }
-        }
-    }
-
-    private static Harnessboard withOptions(int many) {
-        Harnessboard x = new Harnessboard();
-        for (int i = 0; i < many; i++) {
-            x.option();
-        }
-        return x;
-    }
-
-    private static Harnessboard withPoints(int many) {
-        Harnessboard x = new Harnessboard();
-        for (int i = 0; i < many; i++) {
-            x.point();
-        }
-        return x;
-    }
-
-    /** Points 0 to many - 1 in a row, with dry branches of a length that bear 99. */
-    private static Harnessboard row(int many, int length) {
-        Harnessboard x = withPoints(many);
-        for (int i = 1; i < many; i++) {
-            x.branch(i - 1, i, length, false, 99);
-        }
-        return x;
-    }
-
+public final class PromisesTest extends Answers {
     private static void examples() {
         Harnessboard a = new Harnessboard();
         due("a point", a.point(), 0);
@@ -121,7 +61,7 @@ public final class PromisesTest {
     }
 
     private static void promise03Rule() {
-        Harnessboard x = withOptions(3);
+        Harnessboard x = Vehicles.withOptions(3);
         thrown("3 one too low", INDEX, () -> x.rule(-1, 0, 'x'));
         thrown("3 one too high", INDEX, () -> x.rule(3, 3, 'x'));
         thrown("3 other too low", INDEX, () -> x.rule(0, -1, 'q'));
@@ -140,7 +80,7 @@ public final class PromisesTest {
     }
 
     private static void promise04IsBuildable() {
-        Harnessboard x = withOptions(3);
+        Harnessboard x = Vehicles.withOptions(3);
         x.rule(0, 1, 'x');
         x.rule(1, 2, 'f');
         boolean[] due = {true, true, false, false, true, true, true, false};
@@ -153,7 +93,7 @@ public final class PromisesTest {
     }
 
     private static void promise05Buildable() {
-        Harnessboard x = withOptions(3);
+        Harnessboard x = Vehicles.withOptions(3);
         due("5 without rules", x.buildable(), 8);
         x.rule(0, 1, 'x');
         due("5 with one", x.buildable(), 6);
@@ -170,7 +110,7 @@ public final class PromisesTest {
     }
 
     private static void promise07Branch() {
-        Harnessboard x = withPoints(3);
+        Harnessboard x = Vehicles.withPoints(3);
         thrown("7 one too low", INDEX, () -> x.branch(-1, 0, 1, false, 1));
         thrown("7 one too high", INDEX, () -> x.branch(3, 3, 1, false, 1));
         thrown("7 other too low", INDEX, () -> x.branch(0, -1, 0, false, 1));
@@ -193,7 +133,7 @@ public final class PromisesTest {
     }
 
     private static void promise08Way() {
-        Harnessboard x = withPoints(5);
+        Harnessboard x = Vehicles.withPoints(5);
         x.branch(0, 1, 3, true, 9);
         x.branch(1, 2, 4, false, 9);
         x.branch(2, 0, 9, false, 9);
@@ -209,10 +149,10 @@ public final class PromisesTest {
         thrown("8 from too high", INDEX, () -> x.way(5, 0, false));
         thrown("8 to too low", INDEX, () -> x.way(0, -1, false));
         thrown("8 to too high", INDEX, () -> x.way(0, 5, false));
-        Harnessboard wet = withPoints(2);
+        Harnessboard wet = Vehicles.withPoints(2);
         wet.branch(0, 1, 1, true, 1);
         thrown("8 none is dry", ELEMENT, () -> wet.way(0, 1, true));
-        Harnessboard far = row(10, 99);
+        Harnessboard far = Vehicles.row(10, 99);
         due("8 the longest", far.way(0, 9, true), 891);
         due("8 the longest back", far.way(9, 0, false), 891);
     }
@@ -226,7 +166,7 @@ public final class PromisesTest {
     }
 
     private static void promise09WayPoint() {
-        Harnessboard x = withPoints(7);
+        Harnessboard x = Vehicles.withPoints(7);
         x.branch(0, 4, 2, false, 9);
         x.branch(4, 5, 2, false, 9);
         x.branch(0, 3, 2, true, 9);
@@ -243,7 +183,7 @@ public final class PromisesTest {
         thrown("9 from", INDEX, () -> x.wayPoint(7, 0, false, 0));
         thrown("9 to", INDEX, () -> x.wayPoint(0, -1, false, 0));
         thrown("9 the index of a point first", INDEX, () -> x.wayPoint(0, 7, false, 99));
-        Harnessboard y = withPoints(6);
+        Harnessboard y = Vehicles.withPoints(6);
         y.branch(0, 1, 1, false, 9);
         y.branch(1, 4, 1, false, 9);
         y.branch(4, 5, 1, false, 9);
@@ -255,7 +195,7 @@ public final class PromisesTest {
     }
 
     private static void promise10Circuit() {
-        Harnessboard x = withPoints(4);
+        Harnessboard x = Vehicles.withPoints(4);
         thrown("10 first too low", INDEX, () -> x.circuit(-1, 0, -1, 1, 1, false));
         thrown("10 first too high", INDEX, () -> x.circuit(4, 0, -1, 1, 1, false));
         thrown("10 second too low", INDEX, () -> x.circuit(0, -1, -1, 1, 1, false));
@@ -282,7 +222,7 @@ public final class PromisesTest {
     }
 
     private static void promise11Need() {
-        Harnessboard x = withPoints(2);
+        Harnessboard x = Vehicles.withPoints(2);
         x.option();
         x.option();
         x.circuit(0, 1, -1, 1, 1, false);
@@ -299,7 +239,7 @@ public final class PromisesTest {
     }
 
     private static void promise12Needs() {
-        Harnessboard x = withPoints(2);
+        Harnessboard x = Vehicles.withPoints(2);
         x.option();
         x.option();
         x.option();
@@ -322,7 +262,7 @@ public final class PromisesTest {
     }
 
     private static void promise13CanBeLaid() {
-        Harnessboard x = withPoints(4);
+        Harnessboard x = Vehicles.withPoints(4);
         x.circuit(0, 1, -1, 1, 1, false);
         x.circuit(0, 1, -1, 1, 1, true);
         x.circuit(0, 1, 2, 1, 1, false);
@@ -344,7 +284,7 @@ public final class PromisesTest {
     }
 
     private static void promise14Splice() {
-        Harnessboard x = withPoints(5);
+        Harnessboard x = Vehicles.withPoints(5);
         x.circuit(0, 1, 2, 1, 1, false);
         x.circuit(0, 1, -1, 1, 1, false);
         x.circuit(0, 1, 2, 1, 1, true);
@@ -367,7 +307,7 @@ public final class PromisesTest {
     }
 
     private static void promise15Wires() {
-        Harnessboard x = withPoints(4);
+        Harnessboard x = Vehicles.withPoints(4);
         x.circuit(0, 1, -1, 1, 1, false);
         x.circuit(0, 1, 2, 1, 1, false);
         due("15 cannot be laid", x.wires(0), 0);
@@ -385,7 +325,7 @@ public final class PromisesTest {
     }
 
     private static void promise16WireLength() {
-        Harnessboard x = withPoints(4);
+        Harnessboard x = Vehicles.withPoints(4);
         x.branch(0, 3, 4, false, 9);
         x.branch(1, 3, 5, false, 9);
         x.branch(2, 3, 6, false, 9);
@@ -410,7 +350,7 @@ public final class PromisesTest {
     }
 
     private static void promise17GoesThrough() {
-        Harnessboard x = withPoints(4);
+        Harnessboard x = Vehicles.withPoints(4);
         x.branch(0, 1, 3, false, 9);
         x.branch(0, 1, 2, true, 9);
         x.branch(1, 0, 2, false, 9);
@@ -431,7 +371,7 @@ public final class PromisesTest {
         due("17 three ends", x.goesThrough(4, 3), true);
         due("17 three ends", x.goesThrough(4, 1), true);
         due("17 three ends, not", x.goesThrough(4, 0), false);
-        Harnessboard y = withPoints(6);
+        Harnessboard y = Vehicles.withPoints(6);
         int[][] pairs = {{0, 1}, {1, 4}, {4, 5}, {0, 2}, {2, 3}, {3, 5}};
         for (int[] pair : pairs) {
             y.branch(pair[0], pair[1], 1, false, 9);
@@ -455,7 +395,7 @@ public final class PromisesTest {
     }
 
     private static void promise18Size() {
-        Harnessboard x = withPoints(2);
+        Harnessboard x = Vehicles.withPoints(2);
         x.circuit(0, 1, -1, 4, 1, false);
         x.circuit(1, 0, -1, 5, 1, false);
         due("18 its own", x.size(0), 4);
@@ -477,7 +417,7 @@ public final class PromisesTest {
     }
 
     private static void promise19Drop() {
-        Harnessboard x = withPoints(6);
+        Harnessboard x = Vehicles.withPoints(6);
         x.branch(0, 3, 4, false, 99);
         x.branch(1, 3, 5, false, 99);
         x.branch(2, 3, 6, false, 99);
@@ -514,7 +454,7 @@ public final class PromisesTest {
     }
 
     private static void promise21Width() {
-        Harnessboard x = row(3, 1);
+        Harnessboard x = Vehicles.row(3, 1);
         x.option();
         x.circuit(0, 2, -1, 3, 1, false);
         x.circuit(1, 0, -1, 5, 1, false);
@@ -538,7 +478,7 @@ public final class PromisesTest {
     }
 
     private static void promise22Connector() {
-        Harnessboard x = withPoints(2);
+        Harnessboard x = Vehicles.withPoints(2);
         thrown("22 point", INDEX, () -> x.connector(2, 0, 1, true));
         thrown("22 point below", INDEX, () -> x.connector(-1, 1, 1, true));
         thrown("22 cavities 0", ARGUMENT, () -> x.connector(0, 0, 1, true));
@@ -557,7 +497,7 @@ public final class PromisesTest {
 
     /** Connectors 0 unsealed, 1 sealed up to 3, 2 sealed, all at point 0; 3 at point 1. */
     private static Harnessboard seated() {
-        Harnessboard x = row(3, 1);
+        Harnessboard x = Vehicles.row(3, 1);
         x.option();
         x.connector(0, 1, 9, false);
         x.connector(0, 2, 3, true);
@@ -629,14 +569,14 @@ public final class PromisesTest {
         due("25 the other one, too", x.loose(1), 1);
         thrown("25 choice", ARGUMENT, () -> x.loose(2));
         thrown("25 choice below", ARGUMENT, () -> x.loose(-1));
-        Harnessboard y = row(2, 1);
+        Harnessboard y = Vehicles.row(2, 1);
         y.connector(0, 9, 9, false);
         y.circuit(0, 1, -1, 1, 1, false);
         due("25 not sealed", y.loose(0), 1);
     }
 
     private static void promise26Proof() {
-        Harnessboard x = row(3, 10);
+        Harnessboard x = Vehicles.row(3, 10);
         x.point();
         x.option();
         x.option();
@@ -658,7 +598,7 @@ public final class PromisesTest {
         due("26 not buildable goes ahead of all", x.proof(3), 'b');
         thrown("26 choice", ARGUMENT, () -> x.proof(4));
         thrown("26 choice below", ARGUMENT, () -> x.proof(-1));
-        Harnessboard y = row(2, 9);
+        Harnessboard y = Vehicles.row(2, 9);
         y.point();
         y.branch(1, 2, 9, false, 6);
         y.circuit(0, 1, 2, 6, 10, false);
@@ -668,13 +608,13 @@ public final class PromisesTest {
         y.change(0, 5, 7);
         y.chassis(5);
         due("26 the size at the chassis", y.proof(0), 'w');
-        Harnessboard z = row(3, 2);
+        Harnessboard z = Vehicles.row(3, 2);
         z.circuit(0, 1, 2, 1, 10, false);
         z.limit(30);
         due("26 the third end counts, too", z.proof(0), 'd');
         z.limit(40);
         due("26 the third end is at the limit", z.proof(0), 'p');
-        Harnessboard first = withPoints(2);
+        Harnessboard first = Vehicles.withPoints(2);
         first.branch(0, 1, 1, false, 4);
         first.branch(1, 0, 9, false, 9);
         first.circuit(0, 1, -1, 5, 1, false);
@@ -682,7 +622,7 @@ public final class PromisesTest {
     }
 
     private static void promise27Unproved() {
-        Harnessboard x = row(2, 10);
+        Harnessboard x = Vehicles.row(2, 10);
         x.option();
         x.option();
         x.option();
@@ -702,7 +642,7 @@ public final class PromisesTest {
     }
 
     private static void promise28Module() {
-        Harnessboard x = withPoints(2);
+        Harnessboard x = Vehicles.withPoints(2);
         thrown("28 no circuits", ARGUMENT, () -> x.module(1));
         thrown("28 none at all", ARGUMENT, () -> x.module(0));
         x.circuit(0, 1, -1, 1, 1, false);
@@ -719,7 +659,7 @@ public final class PromisesTest {
     }
 
     private static void promise29Built() {
-        Harnessboard x = withPoints(2);
+        Harnessboard x = Vehicles.withPoints(2);
         x.option();
         x.option();
         for (int i = 0; i < 4; i++) {
@@ -746,7 +686,7 @@ public final class PromisesTest {
         x.need(1, 2, 0);
         due("29 nothing is needed", x.built(0), 0);
         due("29 by the other option", x.built(2), 0b010000);
-        Harnessboard y = withPoints(2);
+        Harnessboard y = Vehicles.withPoints(2);
         for (int i = 0; i < 3; i++) {
             y.circuit(0, 1, -1, 1, 1, false);
         }
@@ -758,7 +698,7 @@ public final class PromisesTest {
     }
 
     private static void promise30Order() {
-        Harnessboard x = row(2, 1);
+        Harnessboard x = Vehicles.row(2, 1);
         x.option();
         x.option();
         x.rule(0, 1, 'x');
@@ -791,11 +731,11 @@ public final class PromisesTest {
         due("31 another kind", x.stock(2, 3, 5), 5);
         due("31 more", x.stock(1, 3, 20), 21);
         due("31 more", x.stock(9, 999, 20), 40);
-        for (int i = 0; i < 500; i++) {
+        for (int i = 0; i < 490; i++) {
             due("31 many kinds", x.stock(5, 3 + i, 2), 2);
         }
         due("31 the first of many", x.inStock(5, 3), 2);
-        due("31 the last of many", x.inStock(5, 502), 2);
+        due("31 the last of many", x.inStock(5, 492), 2);
     }
 
     private static void promise32InStock() {
@@ -814,7 +754,7 @@ public final class PromisesTest {
     }
 
     private static void promise33ToCut() {
-        Harnessboard x = row(4, 5);
+        Harnessboard x = Vehicles.row(4, 5);
         x.option();
         x.circuit(0, 1, -1, 2, 1, false);
         x.circuit(0, 1, 2, 2, 1, false);
@@ -847,7 +787,7 @@ public final class PromisesTest {
     }
 
     private static void promise34Cut() {
-        Harnessboard x = row(3, 5);
+        Harnessboard x = Vehicles.row(3, 5);
         thrown("34 nothing is ordered", STATE, x::cut);
         x.order(0);
         due("34 no wires", x.cut(), 0);
@@ -878,7 +818,7 @@ public final class PromisesTest {
         x.order(0);
         due("34 sizes at their chassis", x.cut(), 5 + 2 + 1 + 3);
         due("34 from stock at the first chassis", x.inStock(1, 7), 0);
-        Harnessboard y = row(3, 99);
+        Harnessboard y = Vehicles.row(3, 99);
         y.circuit(0, 2, -1, 9, 1, false);
         y.stock(9, 198, 20);
         y.order(0);
@@ -889,7 +829,7 @@ public final class PromisesTest {
 
     /** All circuits, with three wires of three lengths each, and eight changes at ten chassis. */
     private static void promise34AllKinds() {
-        Harnessboard x = withPoints(7);
+        Harnessboard x = Vehicles.withPoints(7);
         for (int i = 1; i < 7; i++) {
             x.branch(0, i, 10 * i, false, 99);
         }
@@ -926,7 +866,7 @@ public final class PromisesTest {
     }
 
     private static void promise35Laid() {
-        Harnessboard x = row(3, 5);
+        Harnessboard x = Vehicles.row(3, 5);
         x.option();
         x.circuit(0, 1, -1, 3, 1, false);
         x.circuit(0, 2, -1, 3, 1, false);
@@ -951,7 +891,7 @@ public final class PromisesTest {
     }
 
     private static void promise36LaidAt() {
-        Harnessboard x = row(5, 5);
+        Harnessboard x = Vehicles.row(5, 5);
         x.option();
         x.circuit(0, 1, -1, 3, 1, false);
         x.circuit(1, 2, -1, 3, 1, false);
@@ -972,7 +912,7 @@ public final class PromisesTest {
         thrown("36 choice", ARGUMENT, () -> x.laidAt(2, 0));
         thrown("36 choice first", ARGUMENT, () -> x.laidAt(-1, 99));
         dueRow("36 an empty board", new Harnessboard(), 0);
-        Harnessboard y = row(4, 2);
+        Harnessboard y = Vehicles.row(4, 2);
         y.circuit(0, 1, -1, 1, 1, false);
         y.circuit(2, 0, -1, 1, 1, false);
         y.circuit(2, 3, -1, 9, 1, false);
@@ -982,7 +922,7 @@ public final class PromisesTest {
 
     /** Each circuit that is told shares the branch of the one before. */
     private static void promise36Later() {
-        Harnessboard x = row(2, 2);
+        Harnessboard x = Vehicles.row(2, 2);
         for (int i = 0; i < 12; i++) {
             x.circuit(0, 1, -1, 1 + i % 9, 1, false);
         }
@@ -991,7 +931,7 @@ public final class PromisesTest {
     }
 
     private static void promise37LineTime() {
-        Harnessboard x = row(9, 1);
+        Harnessboard x = Vehicles.row(9, 1);
         due("37 nothing", x.lineTime(0, 4), 0);
         x.circuit(0, 4, -1, 1, 1, false);
         due("37 one circuit", x.lineTime(0, 1), 7);
@@ -1014,16 +954,8 @@ public final class PromisesTest {
         thrown("37 places below", ARGUMENT, () -> x.lineTime(0, Integer.MIN_VALUE));
     }
 
-    private static Harnessboard withCircuits(int many) {
-        Harnessboard x = withPoints(2);
-        for (int i = 0; i < many; i++) {
-            x.circuit(0, 1, -1, 1, 1, false);
-        }
-        return x;
-    }
-
     private static void promise38Open() {
-        Harnessboard x = withCircuits(9);
+        Harnessboard x = Vehicles.withCircuits(9);
         thrown("38 circuit", INDEX, () -> x.open(9));
         thrown("38 circuit below", INDEX, () -> x.open(-1));
         due("38 one", x.open(0), 1);
@@ -1038,7 +970,7 @@ public final class PromisesTest {
     }
 
     private static void promise39Shorted() {
-        Harnessboard x = withCircuits(3);
+        Harnessboard x = Vehicles.withCircuits(3);
         thrown("39 one", INDEX, () -> x.shorted(3, 3));
         thrown("39 one below", INDEX, () -> x.shorted(-1, 0));
         thrown("39 other", INDEX, () -> x.shorted(0, 3));
@@ -1055,7 +987,7 @@ public final class PromisesTest {
     }
 
     private static void promise40Mend() {
-        Harnessboard x = withCircuits(3);
+        Harnessboard x = Vehicles.withCircuits(3);
         due("40 none", x.mend(), 0);
         x.open(1);
         x.shorted(0, 1);
@@ -1071,7 +1003,7 @@ public final class PromisesTest {
     }
 
     private static void promise41Leads() {
-        Harnessboard x = withCircuits(3);
+        Harnessboard x = Vehicles.withCircuits(3);
         x.open(1);
         x.shorted(0, 2);
         due("41 not open", x.leads(0), true);
@@ -1082,7 +1014,7 @@ public final class PromisesTest {
     }
 
     private static void promise42Touch() {
-        Harnessboard x = withCircuits(12);
+        Harnessboard x = Vehicles.withCircuits(12);
         for (int i = 8; i > 1; i--) {
             x.shorted(i, i - 1);
         }
@@ -1098,7 +1030,7 @@ public final class PromisesTest {
         thrown("42 one below", INDEX, () -> x.touch(-1, 0));
         thrown("42 other", INDEX, () -> x.touch(0, 12));
         thrown("42 other below", INDEX, () -> x.touch(0, -1));
-        Harnessboard y = withCircuits(3);
+        Harnessboard y = Vehicles.withCircuits(3);
         y.open(1);
         y.shorted(0, 1);
         y.shorted(1, 2);
@@ -1108,9 +1040,9 @@ public final class PromisesTest {
     private static void promise43Tests() {
         int[] due = {0, 1, 2, 2, 3, 3, 3, 3, 4, 4, 4, 4, 4};
         for (int many = 0; many <= 12; many++) {
-            due("43 tests of " + many, withCircuits(many).tests(0), due[many]);
+            due("43 tests of " + many, Vehicles.withCircuits(many).tests(0), due[many]);
         }
-        Harnessboard x = withCircuits(4);
+        Harnessboard x = Vehicles.withCircuits(4);
         x.option();
         x.need(0, 1, 0);
         due("43 only what is needed", x.tests(0), 2);
@@ -1120,7 +1052,7 @@ public final class PromisesTest {
     }
 
     private static void promise44Change() {
-        Harnessboard x = withCircuits(2);
+        Harnessboard x = Vehicles.withCircuits(2);
         thrown("44 circuit", INDEX, () -> x.change(2, -1, 1));
         thrown("44 circuit below", INDEX, () -> x.change(-1, 0, 1));
         thrown("44 chassis -1", ARGUMENT, () -> x.change(0, -1, 1));
@@ -1152,7 +1084,7 @@ public final class PromisesTest {
     }
 
     private static void promise46Cost() {
-        Harnessboard x = row(4, 5);
+        Harnessboard x = Vehicles.row(4, 5);
         x.option();
         x.circuit(0, 2, -1, 3, 1, false);
         x.circuit(0, 1, 3, 2, 1, false);
@@ -1171,7 +1103,7 @@ public final class PromisesTest {
     }
 
     private static void promise47CostOf() {
-        Harnessboard x = row(3, 5);
+        Harnessboard x = Vehicles.row(3, 5);
         x.option();
         x.option();
         x.option();
@@ -1196,7 +1128,7 @@ public final class PromisesTest {
     }
 
     private static void promise48Checksum() {
-        Harnessboard x = row(2, 7);
+        Harnessboard x = Vehicles.row(2, 7);
         due("48 one choice", x.checksum(), (7L * 31 + 'p') * 31);
         x.option();
         x.option();
@@ -1216,7 +1148,7 @@ public final class PromisesTest {
     }
 
     private static void promise49ProvedShare() {
-        Harnessboard x = row(2, 7);
+        Harnessboard x = Vehicles.row(2, 7);
         due("49 all", x.provedShare(), 1.0f);
         x.option();
         x.option();
@@ -1230,7 +1162,7 @@ public final class PromisesTest {
     }
 
     private static void promise50MeanLength() {
-        Harnessboard x = row(4, 5);
+        Harnessboard x = Vehicles.row(4, 5);
         thrown("50 none", ARITHMETIC, x::meanLength);
         x.option();
         x.circuit(0, 2, -1, 3, 1, false);
@@ -1240,7 +1172,7 @@ public final class PromisesTest {
         x.point();
         x.circuit(0, 4, -1, 3, 1, false);
         due("50 one that cannot be laid", x.meanLength(), 25.0 / 3.0);
-        Harnessboard y = withPoints(2);
+        Harnessboard y = Vehicles.withPoints(2);
         y.circuit(0, 1, -1, 3, 1, false);
         thrown("50 none can be laid", ARITHMETIC, y::meanLength);
     }
@@ -1251,7 +1183,7 @@ public final class PromisesTest {
         x.branch(0, 2, 2, false, 3);
         x.branch(0, 2, 1, true, 3);
         due("51 other ways", x.isSound(), true);
-        Harnessboard y = withPoints(10);
+        Harnessboard y = Vehicles.withPoints(10);
         for (int i = 0; i < 16; i++) {
             y.branch(i % 10, (i + 1 + 3 * (i / 10)) % 10, 1 + i % 2, i % 3 == 0, 50);
         }
@@ -1320,9 +1252,6 @@ public final class PromisesTest {
         promise49ProvedShare();
         promise50MeanLength();
         promise51IsSound();
-        System.out.println(wrong == 0 ? "all answers are as due" : wrong + " answers are not as due");
-        if (wrong != 0) {
-            System.exit(1);
-        }
+        end();
     }
 }

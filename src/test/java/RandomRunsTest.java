@@ -1,8 +1,5 @@
-import java.lang.reflect.InvocationTargetException;
-import java.lang.reflect.Method;
 import java.util.ArrayList;
 import java.util.Arrays;
-import java.util.HashMap;
 import java.util.List;
 import java.util.Map;
 import java.util.TreeMap;
@@ -11,7 +8,7 @@ import java.util.TreeMap;
  * Runs of up to 512 calls, drawn from a fixed row of numbers, on the class and on PlainVehicle;
  * each answer must be the same, and the answers must be various enough for that to mean something.
  */
-public final class RandomRunsTest {
+public final class RandomRunsTest extends Answers {
     private static final int RUNS = 200;
     private static final int CALLS = 512;
 
@@ -115,42 +112,22 @@ public final class RandomRunsTest {
         }
     }
 
-    private static String answer(Object object, Method method, Object[] arguments) throws IllegalAccessException {
-        try {
-            return String.valueOf(method.invoke(object, arguments));
-        } catch (InvocationTargetException e) {
-            return "throws " + e.getCause().getClass().getSimpleName();
-        }
-    }
-
-    private static Map<String, Method> methodsOf(Class<?> face) {
-        Map<String, Method> methods = new HashMap<>();
-        for (Method method : face.getMethods()) {
-            methods.put(method.getName(), method);
-        }
-        return methods;
-    }
-
-    private static List<Object> call(Object... nameAndArguments) {
-        return List.of(nameAndArguments);
-    }
-
     /** A vehicle with a net that hangs together, so that much of what follows can be laid. */
-    private static List<List<Object>> plan() {
-        List<List<Object>> plan = new ArrayList<>();
+    private static List<Call> plan() {
+        List<Call> plan = new ArrayList<>();
         int options = below(7);
         int points = 2 + below(9);
         for (int i = 0; i < options; i++) {
-            plan.add(call("option"));
+            plan.add(Call.of("option"));
         }
         for (int i = 0; i < points; i++) {
-            plan.add(call("point"));
+            plan.add(Call.of("point"));
         }
         int branches = below(18 - points);
         for (int i = 1; i < points + branches; i++) {
             int one = i < points ? i : below(points);
             int other = i < points ? below(i) : (one + 1 + below(points - 1)) % points;
-            plan.add(call("branch", one, other, 1 + below(greatestLength), below(5) == 0, 5 + below(90)));
+            plan.add(Call.of("branch", one, other, 1 + below(greatestLength), below(5) == 0, 5 + below(90)));
         }
         int circuits = 1 + below(12);
         int all = (1 << options) - 1;
@@ -159,36 +136,33 @@ public final class RandomRunsTest {
             int second = (first + 1 + below(points - 1)) % points;
             int third = points < 3 || below(3) == 0 ? -1 : 3 * points - first - second;
             third = third == -1 || third % points == first || third % points == second ? -1 : third % points;
-            plan.add(call("circuit", first, second, third, 1 + below(greatestSize), below(40), below(4) == 0));
+            plan.add(Call.of("circuit", first, second, third, 1 + below(greatestSize), below(40), below(4) == 0));
             if (below(3) != 0) {
-                plan.add(call("need", i, below(256) & below(256) & all, below(256) & below(256) & all));
+                plan.add(Call.of("need", i, below(256) & below(256) & all, below(256) & below(256) & all));
             }
         }
         int connectors = below(5);
         for (int i = 0; i < connectors; i++) {
-            plan.add(call("connector", below(points), 4 + below(6), 3 + below(7), below(4) != 0));
+            plan.add(Call.of("connector", below(points), 4 + below(6), 3 + below(7), below(4) != 0));
         }
         return plan;
     }
 
     /** Late calls seldom build, so that what is built is asked for long. */
-    private static List<Object> drawCall(int call) {
+    private static Call drawCall(int call) {
         while (true) {
             String[] drawn = CALLS_AND_KINDS[below(CALLS_AND_KINDS.length)];
             if (!BUILDING.contains(drawn[0]) || below(CALLS) > call) {
-                List<Object> nameAndArguments = new ArrayList<>();
-                nameAndArguments.add(drawn[0]);
+                List<Object> arguments = new ArrayList<>();
                 for (char kind : drawn[1].toCharArray()) {
-                    addArguments(kind, nameAndArguments);
+                    addArguments(kind, arguments);
                 }
-                return nameAndArguments;
+                return new Call(drawn[0], arguments);
             }
         }
     }
 
-    public static void main(String[] args) throws IllegalAccessException {
-        Map<String, Method> tested = methodsOf(Harnessboard.class);
-        Map<String, Method> plain = methodsOf(PlainVehicle.class);
+    public static void main(String[] args) {
         Map<String, Map<String, Integer>> seen = new TreeMap<>();
         for (int run = 0; run < RUNS; run++) {
             seed = 77_000_000L + run;
@@ -196,36 +170,31 @@ public final class RandomRunsTest {
             greatestSize = below(3) == 0 ? 2 : 9;
             badOnesIn = 12 + below(60);
             greatestChassis = below(2) == 0 ? 5 : 9999;
-            List<List<Object>> plan = below(5) == 0 ? List.of() : plan();
-            if (!runOnce(run, plan, tested, plain, seen)) {
-                System.exit(1);
-            }
+            List<Call> plan = below(5) == 0 ? List.of() : plan();
+            runOnce(run, plan, seen);
         }
         checkVariety(seen);
-        System.out.println("all answers are as due");
+        end();
     }
 
-    private static boolean runOnce(int run, List<List<Object>> plan, Map<String, Method> tested,
-            Map<String, Method> plain, Map<String, Map<String, Integer>> seen) throws IllegalAccessException {
+    /** Up to the first answer that is not as due, as what follows it says nothing. */
+    private static void runOnce(int run, List<Call> plan, Map<String, Map<String, Integer>> seen) {
         Harnessboard board = new Harnessboard();
         PlainVehicle vehicle = new PlainVehicle();
         StringBuilder said = new StringBuilder();
         for (int call = 0; call < CALLS; call++) {
             counts = vehicle.counts();
             kindsOfWires = vehicle.kindsOfWires();
-            List<Object> drawn = call < plan.size() ? plan.get(call) : drawCall(call);
-            String name = (String) drawn.get(0);
-            Object[] arguments = drawn.subList(1, drawn.size()).toArray();
-            String got = answer(board, tested.get(name), arguments);
-            String want = answer(vehicle, plain.get(name), arguments);
-            said.append(name).append(Arrays.toString(arguments)).append(" = ").append(want).append('\n');
-            seen.computeIfAbsent(name, any -> new TreeMap<>()).merge(want, 1, Integer::sum);
+            Call drawn = call < plan.size() ? plan.get(call) : drawCall(call);
+            String got = drawn.on(board);
+            String want = drawn.on(vehicle);
+            said.append(drawn).append(" = ").append(want).append('\n');
+            seen.computeIfAbsent(drawn.name(), any -> new TreeMap<>()).merge(want, 1, Integer::sum);
             if (!got.equals(want)) {
-                System.out.println("run " + run + "\n" + said + "but the answer was " + got);
-                return false;
+                fail("run " + run + "\n" + said + "but the answer was " + got);
+                return;
             }
         }
-        return true;
     }
 
     private static void checkVariety(Map<String, Map<String, Integer>> seen) {
@@ -233,24 +202,17 @@ public final class RandomRunsTest {
             seen.forEach((name, answers) -> System.out.println(name + " " + top(answers)));
         }
         for (String letter : new String[] {"b", "n", "w", "l", "d", "p"}) {
-            require(seen.get("proof").getOrDefault(letter, 0) > 20, "proof " + letter);
+            require(seen.get("proof").getOrDefault(letter, 0) > 20, "too little is tried of proof " + letter);
         }
         for (String[] call : CALLS_AND_KINDS) {
             Map<String, Integer> answers = seen.getOrDefault(call[0], Map.of());
             boolean isVarious = answers.size() >= 2 || call[0].equals("isSound");
-            require(isVarious, call[0] + " " + answers);
+            require(isVarious, "too little is tried of " + call[0] + " " + answers);
         }
     }
 
     private static String top(Map<String, Integer> answers) {
         return Arrays.toString(answers.entrySet().stream()
                 .sorted((a, b) -> b.getValue() - a.getValue()).limit(12).toArray());
-    }
-
-    private static void require(boolean holds, String what) {
-        if (!holds) {
-            System.out.println("too little is tried of " + what);
-            System.exit(1);
-        }
     }
 }

@@ -5,16 +5,7 @@ import java.lang.reflect.Field;
  * No run of calls makes isSound answer false, so its checks are tried on vehicles whose inside is
  * spoilt by hand.
  */
-public final class SoundnessTest {
-    private static int wrong = 0;
-
-    private static void due(String what, boolean got, boolean want) {
-        if (got != want) {
-            wrong++;
-            System.out.println(what + " answered " + got + ", due is " + want);
-        }
-    }
-
+public final class SoundnessTest extends Answers {
     private static Object inside(Object owner, String name) throws ReflectiveOperationException {
         Field field = owner.getClass().getDeclaredField(name);
         field.setAccessible(true);
@@ -93,9 +84,6 @@ public final class SoundnessTest {
         checkWays();
         checkSplices();
         checkBoard();
-        System.out.println(wrong == 0 ? "all answers are as due" : wrong + " answers are not as due");
-        if (wrong != 0) {
-            System.exit(1);
-        }
+        end();
     }
 }
