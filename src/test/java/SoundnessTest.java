@@ -1,5 +1,6 @@
 import java.lang.reflect.Array;
 import java.lang.reflect.Field;
+import java.lang.reflect.Method;
 
 /**
  * No run of calls makes isSound answer false, so its checks are tried on vehicles whose inside is
@@ -51,6 +52,9 @@ public final class SoundnessTest extends Answers {
         Harnessboard more = ring();
         far(more, "far")[1] += 1;
         due("a way of too many branches", more.isSound(), false);
+        Harnessboard back = ring();
+        far(back, "far")[10] += 16;
+        due("a way to the first point that is too long", back.isSound(), false);
         Harnessboard dry = ring();
         far(dry, "dryFar")[2] = 9 * 16 + 1;
         due("a dry way along a wet branch", dry.isSound(), false);
@@ -79,11 +83,54 @@ public final class SoundnessTest extends Answers {
         due("an order without what goes ahead", board.isSound(), false);
     }
 
+    private static Object call(Object owner, String name, Object... arguments) throws ReflectiveOperationException {
+        for (Method method : owner.getClass().getDeclaredMethods()) {
+            if (method.getName().equals(name)) {
+                method.setAccessible(true);
+                return method.invoke(owner, arguments);
+            }
+        }
+        throw new NoSuchMethodException(name);
+    }
+
+    /** A connector at each of the first two points, which all circuits of the ring fill. */
+    private static Harnessboard seated() {
+        Harnessboard board = ring();
+        board.connector(0, 2, 9, true);
+        board.connector(1, 3, 9, true);
+        return board;
+    }
+
+    /** Whether each end is seated, when a cavity of a connector holds another circuit, or fewer are taken. */
+    private static boolean holds(int connector, int cavity, int circuit, int taken)
+            throws ReflectiveOperationException {
+        Harnessboard board = seated();
+        Object connectors = inside(board, "connectors");
+        Object circuits = inside(board, "circuits");
+        due("loose ends", call(connectors, "seatAll", circuits, 7).equals(0), true);
+        due("each end is seated", (Boolean) call(connectors, "seatEachEnd", circuits, 7), true);
+        Object spoilt = Array.get(inside(connectors, "list"), connector);
+        ((int[]) inside(spoilt, "held"))[cavity] = circuit;
+        spoil(spoilt, "taken", taken);
+        return (Boolean) call(connectors, "seatEachEnd", circuits, 7);
+    }
+
+    private static void checkSeats() throws ReflectiveOperationException {
+        due("as it is", holds(0, 0, 0, 2), true);
+        due("the first circuit is not at the first point", holds(0, 0, 2, 2), false);
+        due("the last one is not at the first point", holds(0, 1, 0, 2), false);
+        due("the last one is not taken there", holds(0, 0, 0, 1), false);
+        due("nothing is taken there", holds(0, 0, 0, 0), false);
+        due("the second circuit is not at the second point", holds(1, 1, 0, 3), false);
+        due("the last one is not taken at the second point", holds(1, 0, 0, 2), false);
+    }
+
     public static void main(String[] args) throws ReflectiveOperationException {
         due("one that is not spoilt", ring().isSound(), true);
         checkWays();
         checkSplices();
         checkBoard();
+        checkSeats();
         end();
     }
 }

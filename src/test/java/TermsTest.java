@@ -1023,6 +1023,14 @@ public final class TermsTest extends Sentences {
             z.circuit(0, 2, -1, size, 1, false);
             dueRow("no branch is shared, by size " + size, z, 0, 1, 0);
         }
+        Harnessboard late = Vehicles.withPoints(3);
+        late.circuit(0, 2, -1, 5, 1, false);
+        late.circuit(1, 2, -1, 6, 1, false);
+        late.branch(0, 1, 5, false, 99);
+        late.branch(1, 2, 5, false, 99);
+        dueRow("a branch told last is shared", late, 0, 1, 0);
+        late.branch(0, 2, 9, false, 99);
+        dueRow("a branch told last is not shared", late, 0, 0, 1);
     }
 
     private static void greatestSum() {
