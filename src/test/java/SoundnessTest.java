@@ -72,6 +72,14 @@ public final class SoundnessTest extends Answers {
             spoil(circuit(board, 0), "meeting", splice);
             due("the splice " + splice, board.isSound(), splice == 1);
         }
+        Harnessboard star = Vehicles.withPoints(4);
+        for (int i = 1; i < 4; i++) {
+            star.branch(0, i, 5, false, 20);
+        }
+        star.circuit(1, 2, 3, 1, 1, false);
+        due("the first point is best", star.isSound(), true);
+        spoil(circuit(star, 0), "meeting", 1);
+        due("a splice that is worse than the first point", star.isSound(), false);
         Harnessboard board = ring();
         spoil(circuit(board, 2), "meeting", 0);
         due("a splice of one that cannot be laid", board.isSound(), false);
