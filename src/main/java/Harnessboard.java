@@ -894,9 +894,9 @@ public final class Harnessboard {
 
     /**
      * Tries all ways from a start and keeps the best one to each point, to check those that the
-     * net finds. A way that is longer than what the net tells for its last point is not gone on
+     * net finds. A way that is longer than one that the net tells for its last point is not gone on
      * with: either the net is right, and no least way begins so, or it tells too little for that
-     * point, and the check finds this there.
+     * point, and the check finds this there. Where the net tells no way, all are gone on with.
      */
     private static final class WayTrial {
         private final Net net;
@@ -929,7 +929,8 @@ public final class Harnessboard {
         private static void tryOn(WayTrial trial, int steps, int length, int seen) {
             Net net = trial.net;
             int at = trial.points[steps];
-            if (length > net.leastLength(trial.points[0], at, trial.isDry)) {
+            int told = net.leastLength(trial.points[0], at, trial.isDry);
+            if (told >= 0 && length > told) {
                 return;
             }
             trial.keepIfBetter(at, steps, length);

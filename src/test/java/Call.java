@@ -1,5 +1,6 @@
 import java.lang.reflect.InvocationTargetException;
 import java.lang.reflect.Method;
+import java.util.ArrayList;
 import java.util.HashMap;
 import java.util.List;
 import java.util.Map;
@@ -10,6 +11,25 @@ record Call(String name, List<Object> arguments) {
 
     static Call of(String name, Object... arguments) {
         return new Call(name, List.of(arguments));
+    }
+
+    /** A call by its name and its arguments as they are written, with ", " between them. */
+    static Call read(String name, String written) {
+        List<Object> arguments = new ArrayList<>();
+        for (String word : written.split(", ")) {
+            if (!word.isEmpty()) {
+                arguments.add(value(word));
+            }
+        }
+        return new Call(name, arguments);
+    }
+
+    /** What a written number, sign or truth stands for. */
+    static Object value(String word) {
+        if (word.equals("true") || word.equals("false")) {
+            return Boolean.valueOf(word);
+        }
+        return word.startsWith("'") ? (Object) word.charAt(1) : Integer.valueOf(word);
     }
 
     /** The answer as a text; "throws X" if the call throws just X. */

@@ -45,6 +45,13 @@ final class Document {
         return found;
     }
 
+    /** The lines of the terms that are examples. */
+    static List<String> examples() {
+        List<String> found = below("## Terms");
+        found.removeIf(line -> !line.startsWith("- "));
+        return found;
+    }
+
     static List<String> promise(int number) {
         return below("## Promise " + number + ":");
     }

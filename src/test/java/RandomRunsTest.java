@@ -5,15 +5,21 @@ import java.util.Map;
 import java.util.TreeMap;
 
 /**
- * Runs of up to 512 calls, drawn from a fixed row of numbers, on the class and on PlainVehicle;
- * each answer must be the same, and the answers must be various enough for that to mean something.
+ * Runs of 512 calls, drawn from a fixed row of numbers, on the class and on PlainVehicle; each
+ * answer must be the same. In all runs told, refused and asking calls of all methods are mixed to
+ * the end, and the last calls are of each method in turn; that the answers are various enough for
+ * that to mean something is held against the document, too.
  */
 public final class RandomRunsTest extends Answers {
-    private static final int RUNS = 200;
+    private static final int RUNS = 250;
     private static final int CALLS = 512;
+    /** From this call on a run nears its end. */
+    private static final int LATE = 384;
+    /** The choice without options keeps all rules, so that always one is buildable. */
+    private static final String NEVER = "provedShare throws ArithmeticException";
 
     /**
-     * What each call takes: o option, c set of options, p point, P point or -1, b branch, i circuit,
+     * All methods by their promises, from 2 on, and what each takes: o option, c set of options, p point, P point or -1, b branch, i circuit,
      * n connector, z boolean, k kind of rule, L length, W width, S size, A amperes, T limit, C
      * cavities, v cavity, m set of circuits, K size and length in stock, M many, Y places, H
      * chassis, w wire, e end, x index on a way, y place on the board.
@@ -40,6 +46,8 @@ public final class RandomRunsTest extends Answers {
     private static int greatestSize;
     private static int badOnesIn;
     private static int greatestChassis;
+    private static boolean isEven;
+    private static final int[] WEIGHTS = new int[CALLS_AND_KINDS.length];
 
     private static int below(int bound) {
         seed = seed * 6364136223846793005L + 1442695040888963407L;
@@ -91,7 +99,8 @@ public final class RandomRunsTest extends Answers {
     private static int setOfOptions() {
         int all = (1 << counts.get("options")) - 1;
         int set = below(2) == 0 ? below(256) & all : below(256) & below(256) & below(256) & all;
-        return below(badOnesIn) == 0 ? number(0, all) : set;
+        int[] wrong = {all + 1, all + 1 | set, ~set, -1, Integer.MIN_VALUE | set, Integer.MAX_VALUE};
+        return below(badOnesIn) == 0 ? wrong[below(wrong.length)] : set;
     }
 
     /** Mostly small ones, so that modules make up what is needed. */
@@ -148,48 +157,76 @@ public final class RandomRunsTest extends Answers {
         return plan;
     }
 
-    /** Late calls seldom build, so that what is built is asked for long. */
+    /** A run favours some methods and shuns others, so that also what seldom comes together does. */
+    private static void drawWeights() {
+        Arrays.fill(WEIGHTS, 5);
+        for (int i = 0; i < 4; i++) {
+            WEIGHTS[below(WEIGHTS.length)] = 1;
+            WEIGHTS[below(WEIGHTS.length)] = 50;
+        }
+    }
+
+    private static String[] drawMethod() {
+        int left = below(Arrays.stream(WEIGHTS).sum());
+        int method = 0;
+        while (left >= WEIGHTS[method]) {
+            left -= WEIGHTS[method];
+            method++;
+        }
+        return CALLS_AND_KINDS[method];
+    }
+
+    private static Call callOf(String[] method) {
+        List<Object> arguments = new ArrayList<>();
+        for (char kind : method[1].toCharArray()) {
+            addArguments(kind, arguments);
+        }
+        return new Call(method[0], arguments);
+    }
+
+    /** But in even runs late calls seldom build, so that what is built is asked for long. */
     private static Call drawCall(int call) {
         while (true) {
-            String[] drawn = CALLS_AND_KINDS[below(CALLS_AND_KINDS.length)];
-            if (!BUILDING.contains(drawn[0]) || below(CALLS) > call) {
-                List<Object> arguments = new ArrayList<>();
-                for (char kind : drawn[1].toCharArray()) {
-                    addArguments(kind, arguments);
-                }
-                return new Call(drawn[0], arguments);
+            String[] drawn = drawMethod();
+            if (isEven || !BUILDING.contains(drawn[0]) || below(CALLS) > call) {
+                return callOf(drawn);
             }
         }
     }
 
     public static void main(String[] args) {
-        Map<String, Map<String, Integer>> seen = new TreeMap<>();
+        Variety variety = new Variety();
         for (int run = 0; run < RUNS; run++) {
             seed = 77_000_000L + run;
             greatestLength = below(3) == 0 ? 99 : 1 + below(4);
             greatestSize = below(3) == 0 ? 2 : 9;
-            badOnesIn = 12 + below(60);
+            badOnesIn = 6 + below(60);
             greatestChassis = below(2) == 0 ? 5 : 9999;
-            List<Call> plan = below(5) == 0 ? List.of() : plan();
-            runOnce(run, plan, seen);
+            isEven = below(3) == 0;
+            drawWeights();
+            List<Call> plan = below(4) == 0 ? List.of() : plan();
+            runOnce(run, plan, variety);
         }
-        checkVariety(seen);
+        variety.check();
         end();
     }
 
     /** Up to the first answer that is not as due, as what follows it says nothing. */
-    private static void runOnce(int run, List<Call> plan, Map<String, Map<String, Integer>> seen) {
+    private static void runOnce(int run, List<Call> plan, Variety variety) {
         Harnessboard board = new Harnessboard();
         PlainVehicle vehicle = new PlainVehicle();
         StringBuilder said = new StringBuilder();
-        for (int call = 0; call < CALLS; call++) {
+        for (int call = 1; call <= CALLS; call++) {
             counts = vehicle.counts();
             kindsOfWires = vehicle.kindsOfWires();
-            Call drawn = call < plan.size() ? plan.get(call) : drawCall(call);
+            Call drawn = call <= plan.size() ? plan.get(call - 1) : drawCall(call);
+            if (call == CALLS) {
+                drawn = callOf(CALLS_AND_KINDS[run % CALLS_AND_KINDS.length]);
+            }
             String got = drawn.on(board);
             String want = drawn.on(vehicle);
             said.append(drawn).append(" = ").append(want).append('\n');
-            seen.computeIfAbsent(drawn.name(), any -> new TreeMap<>()).merge(want, 1, Integer::sum);
+            variety.add(drawn.name(), want, call);
             if (!got.equals(want)) {
                 fail("run " + run + "\n" + said + "but the answer was " + got);
                 return;
@@ -197,22 +234,56 @@ public final class RandomRunsTest extends Answers {
         }
     }
 
-    private static void checkVariety(Map<String, Map<String, Integer>> seen) {
-        if (Boolean.getBoolean("tell")) {
-            seen.forEach((name, answers) -> System.out.println(name + " " + top(answers)));
-        }
-        for (String letter : new String[] {"b", "n", "w", "l", "d", "p"}) {
-            require(seen.get("proof").getOrDefault(letter, 0) > 20, "too little is tried of proof " + letter);
-        }
-        for (String[] call : CALLS_AND_KINDS) {
-            Map<String, Integer> answers = seen.getOrDefault(call[0], Map.of());
-            boolean isVarious = answers.size() >= 2 || call[0].equals("isSound");
-            require(isVarious, "too little is tried of " + call[0] + " " + answers);
-        }
-    }
+    /** How often which answers came, in all and late in a run; all exceptions of a kind are one answer. */
+    private static final class Variety {
+        private final Map<String, Map<String, Integer>> all = new TreeMap<>();
+        private final Map<String, Map<String, Integer>> late = new TreeMap<>();
 
-    private static String top(Map<String, Integer> answers) {
-        return Arrays.toString(answers.entrySet().stream()
-                .sorted((a, b) -> b.getValue() - a.getValue()).limit(12).toArray());
+        void add(String method, String answer, int call) {
+            all.computeIfAbsent(method, any -> new TreeMap<>()).merge(answer, 1, Integer::sum);
+            if (call >= LATE) {
+                late.computeIfAbsent(method, any -> new TreeMap<>()).merge(answer, 1, Integer::sum);
+            }
+        }
+
+        void check() {
+            if (Boolean.getBoolean("tell")) {
+                all.forEach((method, answers) -> System.out.println(method + " " + top(answers)));
+            }
+            for (String letter : new String[] {"b", "n", "w", "l", "d", "p"}) {
+                needs("proof", letter, 100, 30);
+            }
+            for (int i = 0; i < CALLS_AND_KINDS.length; i++) {
+                String method = CALLS_AND_KINDS[i][0];
+                requireAnswers(method);
+                for (String line : Document.promise(i + 2)) {
+                    if (line.startsWith("Throws `")) {
+                        needs(method, "throws " + line.split("`")[1], 10, 5);
+                    }
+                }
+            }
+        }
+
+        /** Answers that are no exceptions, and not always the same one. */
+        private void requireAnswers(String method) {
+            Map<String, Integer> answers = new TreeMap<>(late.getOrDefault(method, Map.of()));
+            answers.keySet().removeIf(answer -> answer.startsWith("throws "));
+            int many = answers.values().stream().mapToInt(Integer::intValue).sum();
+            require(many >= 30 && (answers.size() >= 2 || method.equals("isSound")),
+                    "too little is answered late by " + method + ": " + answers);
+        }
+
+        private void needs(String method, String answer, int many, int manyLate) {
+            int seen = all.getOrDefault(method, Map.of()).getOrDefault(answer, 0);
+            int seenLate = late.getOrDefault(method, Map.of()).getOrDefault(answer, 0);
+            boolean isNever = NEVER.equals(method + " " + answer);
+            require(isNever ? seen == 0 : seen >= many && seenLate >= manyLate,
+                    method + " " + answer + " came " + seen + " times, late " + seenLate + " times");
+        }
+
+        private static String top(Map<String, Integer> answers) {
+            return Arrays.toString(answers.entrySet().stream()
+                    .sorted((a, b) -> b.getValue() - a.getValue()).limit(12).toArray());
+        }
     }
 }

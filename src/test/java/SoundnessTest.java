@@ -61,6 +61,19 @@ public final class SoundnessTest extends Answers {
         Harnessboard none = ring();
         far(none, "far")[12] = 1 << 20;
         due("a way that is not found", none.isSound(), false);
+        Harnessboard apart = ring();
+        for (int i = 0; i < 100; i++) {
+            far(apart, "far")[i] = i % 11 == 0 ? 0 : 1 << 20;
+        }
+        due("no way is found at all", apart.isSound(), false);
+        Harnessboard dryApart = ring();
+        for (int other : new int[] {0, 2}) {
+            far(dryApart, "dryFar")[10 + other] = 1 << 20;
+            far(dryApart, "dryFar")[10 * other + 1] = 1 << 20;
+        }
+        far(dryApart, "dryFar")[2] = 1 << 20;
+        far(dryApart, "dryFar")[20] = 1 << 20;
+        due("no dry way is found at all", dryApart.isSound(), false);
         Harnessboard any = ring();
         far(any, "far")[3] = 16;
         due("a way that there is not", any.isSound(), false);
