@@ -146,12 +146,30 @@ public final class SoundnessTest extends Answers {
         due("the last one is not taken at the second point", holds(1, 0, 0, 2), false);
     }
 
+    /** Two connectors that write into one row: each circuit finds a cavity, but the first loses it. */
+    private static void checkProved() throws ReflectiveOperationException {
+        Harnessboard board = ring();
+        board.option();
+        board.need(2, 1, 0);
+        board.connector(2, 1, 9, true);
+        board.connector(2, 1, 9, true);
+        due("two circuits are seated", board.proof(0), 'p');
+        due("each in its cavity", board.isSound(), true);
+        Object list = inside(inside(board, "connectors"), "list");
+        Field held = Array.get(list, 1).getClass().getDeclaredField("held");
+        held.setAccessible(true);
+        held.set(Array.get(list, 1), inside(Array.get(list, 0), "held"));
+        due("it still counts as proved", board.proof(0), 'p');
+        due("but the first circuit is in no cavity", board.isSound(), false);
+    }
+
     public static void main(String[] args) throws ReflectiveOperationException {
         due("one that is not spoilt", ring().isSound(), true);
         checkWays();
         checkSplices();
         checkBoard();
         checkSeats();
+        checkProved();
         end();
     }
 }
